@@ -38,7 +38,6 @@ public final class FlexiblePolicy {
         history = new History();
         now = new Standing();
         trial = new Standing();
-        // The history's first row is all 0, as a new standing is.
         present = 0;
     }
 
@@ -59,7 +58,6 @@ public final class FlexiblePolicy {
         book.empty();
         now.startFresh();
         present = 0;
-        history.keep(0, now);
         return closed;
     }
 
@@ -159,7 +157,7 @@ public final class FlexiblePolicy {
     }
 
     public int grace() {
-        return now.state == IN_GRACE ? now.grace : 0;
+        return now.grace;
     }
 
     public int corridor(int age) throws IllegalArgumentException {
@@ -363,6 +361,7 @@ public final class FlexiblePolicy {
         int account;
         int loan;
         int arrears;
+        /** 0 in every state but IN_GRACE. */
         int grace;
         /** The first month at whose beginning it was lapsed; of use while it is lapsed. */
         int lapsedFrom;
@@ -504,14 +503,19 @@ public final class FlexiblePolicy {
     /** The acts as they were told; a struck one keeps its number. */
     private static final class ActBook {
         int count;
-        final int[] months = new int[MOST_ACTS];
-        final int[] kinds = new int[MOST_ACTS];
-        final int[] amounts = new int[MOST_ACTS];
-        final boolean[] struck = new boolean[MOST_ACTS];
-        final boolean[] done = new boolean[MOST_ACTS];
+        final int[] months;
+        final int[] kinds;
+        final int[] amounts;
+        final boolean[] struck;
+        final boolean[] done;
 
         ActBook() {
             count = 0;
+            months = new int[MOST_ACTS];
+            kinds = new int[MOST_ACTS];
+            amounts = new int[MOST_ACTS];
+            struck = new boolean[MOST_ACTS];
+            done = new boolean[MOST_ACTS];
         }
 
         void empty() {
@@ -578,17 +582,30 @@ public final class FlexiblePolicy {
         }
     }
 
-    /** Where the policy stood at the beginning of every month, before that month's acts. */
+    /**
+     * Where the policy stood at the beginning of every month, before that month's acts. Row 0
+     * is never written: it is all 0, as every policy begins.
+     */
     private static final class History {
         static final int ROWS = MOST_MONTHS + 1;
 
-        final int[] states = new int[ROWS];
-        final int[] accounts = new int[ROWS];
-        final int[] loans = new int[ROWS];
-        final int[] arrearsRows = new int[ROWS];
-        final int[] graces = new int[ROWS];
-        final int[] lapsedFroms = new int[ROWS];
-        final int[] paids = new int[ROWS];
+        final int[] states;
+        final int[] accounts;
+        final int[] loans;
+        final int[] arrearsRows;
+        final int[] graces;
+        final int[] lapsedFroms;
+        final int[] paids;
+
+        History() {
+            states = new int[ROWS];
+            accounts = new int[ROWS];
+            loans = new int[ROWS];
+            arrearsRows = new int[ROWS];
+            graces = new int[ROWS];
+            lapsedFroms = new int[ROWS];
+            paids = new int[ROWS];
+        }
 
         boolean hasRow(int month) {
             return month >= 0 && month < ROWS;
