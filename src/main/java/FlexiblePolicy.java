@@ -540,7 +540,6 @@ public final class FlexiblePolicy {
             kinds[number] = kind;
             amounts[number] = amount;
             struck[number] = false;
-            done[number] = false;
             count++;
             return number;
         }
