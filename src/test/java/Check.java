@@ -7,15 +7,21 @@ final class Check {
 
     private static int wrong = 0;
     private static int asked = 0;
+    private static String subject = "";
 
     private Check() {
+    }
+
+    /** What the answers from here on are about; it stands ahead of each that is not as due. */
+    static void about(String words) {
+        subject = words + ": ";
     }
 
     static void due(String what, long got, long want) {
         asked++;
         if (got != want) {
             wrong++;
-            System.out.println(what + ": got " + got + ", due is " + want);
+            System.out.println(subject + what + ": got " + got + ", due is " + want);
         }
     }
 

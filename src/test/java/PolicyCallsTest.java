@@ -70,7 +70,7 @@ public final class PolicyCallsTest {
     }
 
     private static void beginRefused() {
-        FlexiblePolicy p = busy();
+        FlexiblePolicy p = Made.busy();
         Check.refused("2 age 17", p, Check.ARGUMENT, () -> p.begin(17, 100000, 0));
         Check.refused("2 age 71", p, Check.ARGUMENT, () -> p.begin(71, 100000, 0));
         Check.refused("2 sum 99999", p, Check.ARGUMENT, () -> p.begin(30, 99999, 0));
@@ -136,7 +136,7 @@ public final class PolicyCallsTest {
     }
 
     private static void tellRefused() {
-        FlexiblePolicy p = busy();
+        FlexiblePolicy p = Made.busy();
         int m = p.month();
         Check.refused("3 month -1", p, Check.ARGUMENT, () -> p.tell(-1, 0, 1));
         Check.refused("3 month to come", p, Check.ARGUMENT, () -> p.tell(m + 1, 0, 1));
@@ -269,7 +269,7 @@ public final class PolicyCallsTest {
     }
 
     private static void closeRefused() {
-        FlexiblePolicy p = busy();
+        FlexiblePolicy p = Made.busy();
         Check.refused("7 none", p, Check.ARGUMENT, () -> p.close(0));
         Check.refused("7 -1", p, Check.ARGUMENT, () -> p.close(-1));
         Check.refused("7 25", p, Check.ARGUMENT, () -> p.close(25));
@@ -296,20 +296,5 @@ public final class PolicyCallsTest {
         Check.due("8 nor a struck one", p.month(), 24);
         p.begin(30, 100000, 0);
         Check.due("8 anew", p.month(), 0);
-    }
-
-    /** One with acts of several months, in its 14th month. */
-    private static FlexiblePolicy busy() {
-        FlexiblePolicy p = new FlexiblePolicy();
-        p.begin(45, 3000000, 1);
-        p.tell(0, 0, 300000);
-        p.close(7);
-        p.tell(7, 1, 120000);
-        p.tell(7, 3, 2000000);
-        p.close(7);
-        p.tell(3, 0, 5000);
-        p.tell(14, 2, 1000);
-        p.strike(3);
-        return p;
     }
 }
